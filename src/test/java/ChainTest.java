@@ -263,13 +263,15 @@ public final class ChainTest {
         g.describe(GO, 0, 2048, 0, 0, 0);
         g.fill(used, 4, 0xabcd1234L);
         g.fill(used + 4, 8, -1);
+        g.fill(used + 12, 8, -1);
         g.offer(GO, 1);
         CHECKS.due("step", g.x().step(GO), 1);
         CHECKS.due("its BITS stay", g.number(used, 2), 0x1234);
         CHECKS.due("its COUNT, whatever stood there", g.usedCount(GO), 1);
         CHECKS.due("the head", g.usedHead(GO, 0), 1);
         CHECKS.due("the bytes", g.usedBytes(GO, 0), 0);
-        CHECKS.due("the place behind", g.number(used + 12, 8), 0);
+        CHECKS.due("the place behind", g.number(used + 12, 8), -1);
+        g.fill(used + 20, 4, 0xffffffffL);
         g.offer(GO, 0);
         CHECKS.due("step", g.x().step(GO), 1);
         g.offer(GO, 0);
@@ -279,7 +281,7 @@ public final class ChainTest {
         CHECKS.due("the first place again", g.usedHead(GO, 0), 0);
         CHECKS.due("GIVEN", g.x().told(GO, 2), 3);
         CHECKS.due("SIGNALS", g.x().told(GO, 3), 3);
-        CHECKS.due("behind the USED ring", g.number(used + 20, 4), 0);
+        CHECKS.due("behind the USED ring", g.number(used + 20, 4), 0xffffffffL);
     }
 
     private static void quiet() {

@@ -17,6 +17,7 @@ public final class DiskTest {
         notEvenAHead();
         resultGoesOverTheBytes();
         wholeDisk();
+        neighboursStay();
         CHECKS.end();
     }
 
@@ -239,6 +240,31 @@ public final class DiskTest {
         CHECKS.due("step", g.x().step(0), 1);
         CHECKS.due("RESULT over the first letter", g.number(HEAD, 8), 0x73676e6900L);
         CHECKS.due("bytes", g.usedBytes(0, 0), 21);
+    }
+
+    private static void neighboursStay() {
+        Guest g = asked(1, 4, 192, false);
+        g.x().poke(DATA + 63, 3);
+        g.x().poke(DATA + 64, 4);
+        g.x().poke(DATA + 127, 5);
+        g.x().poke(DATA + 128, 6);
+        due(g, "write three", 0, 1);
+        g.x().poke(DATA, 7);
+        again(g, 1, 5, 64, false);
+        due(g, "write the one between", 0, 1);
+        CHECKS.due("the last byte before", g.x().disk(4, 63), 3);
+        CHECKS.due("the first byte", g.x().disk(5, 0), 7);
+        CHECKS.due("the last byte", g.x().disk(5, 63), 3);
+        CHECKS.due("the first byte behind", g.x().disk(6, 0), 6);
+        again(g, 0, 4, 64, true);
+        g.x().poke(DATA - 1, 8);
+        g.x().poke(RESULT - 1, 9);
+        g.x().poke(RESULT + 1, 10);
+        due(g, "read the one before", 0, 65);
+        CHECKS.due("before the bytes", g.x().peek(DATA - 1), 8);
+        CHECKS.due("behind the bytes", g.x().peek(DATA + 64), 4);
+        CHECKS.due("before RESULT", g.x().peek(RESULT - 1), 9);
+        CHECKS.due("behind RESULT", g.x().peek(RESULT + 1), 10);
     }
 
     private static void wholeDisk() {

@@ -13,6 +13,7 @@ public final class DriverTest {
         tooFewAreFree();
         theLeastIsLentFirst();
         availableGoesRound();
+        neighboursStay();
         collectInAnyOrder();
         collectStrange();
         collectFreesWhatWasLent();
@@ -247,6 +248,22 @@ public final class DriverTest {
         g.fill(386, 2, 5);
         CHECKS.due("post", g.x().post(), 0);
         CHECKS.due("COUNT is the DRIVER'S own", g.number(386, 2), 21);
+    }
+
+    private static void neighboursStay() {
+        Guest g = started(false);
+        g.fill(48, 8, -1);
+        g.fill(134, 2, 0xffff);
+        CHECKS.due("read", g.x().read(0), 0);
+        CHECKS.due("the next DESCRIPTOR", g.number(48, 8), -1);
+        CHECKS.due("the next place of the AVAILABLE ring", g.number(134, 2), 0xffff);
+        g.fill(132, 2, 7);
+        CHECKS.due("read", g.x().read(0), 3);
+        CHECKS.due("the place before", g.number(132, 2), 7);
+        CHECKS.due("the AVAILABLE ring's BITS", g.number(128, 2), 0);
+        g.fill(128, 2, 0x0101);
+        CHECKS.due("post", g.x().post(), 0);
+        CHECKS.due("the AVAILABLE ring's BITS", g.number(128, 2), 0x0101);
     }
 
     private static void collectInAnyOrder() {

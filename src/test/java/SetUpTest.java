@@ -100,6 +100,10 @@ public final class SetUpTest {
         CHECKS.due("SAW", x.told(0, 6), 0);
         CHECKS.due("written", x.written(0), RingDevices.NONE);
         CHECKS.due("collect", x.collect(0), RingDevices.NONE);
+        x.poke(154, 1);
+        x.poke(156, 3);
+        CHECKS.due("what was lent before START", x.collect(0), RingDevices.STRANGE);
+        x.start(true);
         CHECKS.due("the least is lent first", x.read(0), 0);
         CHECKS.due("the AVAILABLE ring's COUNT", x.peek(130), 1);
         CHECKS.due("step", x.step(0), 1);
