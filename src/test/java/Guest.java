@@ -3,7 +3,7 @@ final class Guest {
     static final int NEXT = 1, WRITES = 2, TABLE = 4;
     private static final int MOST_CALLS = 512;
 
-    final RingDevices x = new RingDevices();
+    private final RingDevices x = new RingDevices();
     private final Checks checks;
     private final int[] sizes = new int[3];
     private final int[] descriptors = new int[3];
@@ -29,7 +29,7 @@ final class Guest {
         checks.due(call, got, want);
     }
 
-    /** The three QUEUES at the driver's places, with this SIZE, and the device running. */
+    /** The three QUEUES with this SIZE, 512 bytes apart, and the device running. */
     static Guest running(Checks checks, int size, boolean tables) {
         Guest g = new Guest(checks);
         g.due("reset", g.x().reset(tables), 0);
