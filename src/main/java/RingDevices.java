@@ -53,7 +53,7 @@ public final class RingDevices {
 
     public int reset(boolean tables) {
         device.switchOff(tables);
-        driver.started = false;
+        driver.stop();
         return 0;
     }
 
@@ -149,7 +149,7 @@ public final class RingDevices {
             case 2: return ring.given;
             case 3: return ring.signals;
             case 4: return ring.size;
-            case 5: return driver.started ? loans.freeOnes() : 0;
+            case 5: return loans.freeOnes();
             case 6: return loans.saw;
             default: return BAD;
         }
@@ -701,8 +701,14 @@ public final class RingDevices {
         }
 
         void begin() {
-            Arrays.fill(chains, 0);
+            forget();
             free = (1 << DRIVER_SIZE) - 1;
+        }
+
+        /** As on a new object: a DRIVER that has not STARTED has none FREE, and SAW and COLLECTED nothing. */
+        void forget() {
+            Arrays.fill(chains, 0);
+            free = 0;
             asked = 0;
             saw = 0;
             latestWritten = NONE;
@@ -757,7 +763,7 @@ public final class RingDevices {
         private final Loans comes;
         private final Loans goes;
         private boolean tables;
-        boolean started;
+        private boolean started;
 
         Driver(Memory memory) {
             this.memory = memory;
@@ -772,6 +778,13 @@ public final class RingDevices {
             disks.begin();
             comes.begin();
             goes.begin();
+        }
+
+        void stop() {
+            started = false;
+            disks.forget();
+            comes.forget();
+            goes.forget();
         }
 
         Loans loansOf(int queue) {

@@ -19,6 +19,7 @@ public final class DriverTest {
         collectFreesWhatWasLent();
         collectGoesByTheUsedRing();
         written();
+        writtenBehindReset();
         driverOfABrokenDevice();
         writeAndReadBack();
         CHECKS.end();
@@ -362,6 +363,32 @@ public final class DriverTest {
         CHECKS.due("start", g.x().start(false), 0);
         CHECKS.due("nothing since START", g.x().written(0), RingDevices.NONE);
         CHECKS.due("nothing since START", g.x().written(2), RingDevices.NONE);
+    }
+
+    private static void writtenBehindReset() {
+        for (int t = 0; t < 2; t++) {
+            RingDevices x = new RingDevices();
+            x.start(t == 1);
+            x.read(0);
+            x.step(0);
+            x.post();
+            x.arrive(1, 0);
+            x.send(1, 0);
+            x.step(2);
+            int[] due = {65, 13, 0};
+            for (int q = 0; q < 3; q++) {
+                x.collect(q);
+                CHECKS.due("written(" + q + ")", x.written(q), due[q]);
+            }
+            x.reset(t == 0);
+            for (int q = 0; q < 3; q++) {
+                CHECKS.due("reset: written(" + q + ")", x.written(q), RingDevices.NONE);
+            }
+            CHECKS.due("BAD goes first", x.written(3), RingDevices.BAD);
+            x.run();
+            CHECKS.due("collect", x.collect(0), RingDevices.OFF);
+            CHECKS.due("a guest's device RUNS", x.written(0), RingDevices.NONE);
+        }
     }
 
     private static void driverOfABrokenDevice() {

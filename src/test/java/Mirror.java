@@ -72,7 +72,6 @@ final class Mirror {
         reset(agreed);
         for (int q = 0; q < 3; q++) {
             queue(q, 8, 256 * q, 256 * q + 128, 256 * q + 152);
-            lent[q] = new Lent();
             for (int d = 0; d < 8; d++) {
                 lent[q].free.add(d);
             }
@@ -86,6 +85,7 @@ final class Mirror {
         started = false;
         tables = agreed;
         queues = new Queue[] {new Queue(), new Queue(), new Queue()};
+        lent = new Lent[] {new Lent(), new Lent(), new Lent()};
         return 0;
     }
 

@@ -89,6 +89,10 @@ public final class MirrorTest {
         due("start(" + tables + ")", x.start(tables), m.start(tables));
     }
 
+    private void reset(boolean tables) {
+        due("reset(" + tables + ")", x.reset(tables), m.reset(tables));
+    }
+
     private void byDriver() {
         start(chance.nextBoolean());
         boolean pokes = chance.nextInt(4) != 0;
@@ -100,6 +104,33 @@ public final class MirrorTest {
             if (m.count(0) == 2 && chance.nextInt(8) == 0) {
                 start(chance.nextBoolean());
             }
+            if (chance.nextInt(100) == 0) {
+                pause();
+            }
+        }
+    }
+
+    /** A guest that is no DRIVER comes, and now and then does a little, before the DRIVER STARTS again. */
+    private void pause() {
+        reset(chance.nextBoolean());
+        lookAtDriver();
+        for (int k = chance.nextInt(8); k > 0; k--) {
+            ask();
+            if (chance.nextInt(3) == 0) {
+                due("run()", x.run(), m.run());
+            }
+        }
+        if (chance.nextInt(8) != 0) {
+            start(chance.nextBoolean());
+            lookAtDriver();
+        }
+    }
+
+    private void lookAtDriver() {
+        for (int q = 0; q < 3; q++) {
+            due("written(" + q + ")", x.written(q), m.written(q));
+            due("told(" + q + ", 5)", x.told(q, 5), m.told(q, 5));
+            due("told(" + q + ", 6)", x.told(q, 6), m.told(q, 6));
         }
     }
 
@@ -145,8 +176,7 @@ public final class MirrorTest {
     }
 
     private void byGuest() {
-        boolean tables = chance.nextBoolean();
-        due("reset(" + tables + ")", x.reset(tables), m.reset(tables));
+        reset(chance.nextBoolean());
         boolean tight = chance.nextInt(3) == 0;
         for (int q = 0; q < 3; q++) {
             lay(q, tight ? 512 : 4096);
@@ -236,6 +266,9 @@ public final class MirrorTest {
         for (int q = 0; q < 3; q++) {
             for (int what = 0; what < 7 && more(0); what++) {
                 due("told(" + q + ", " + what + ")", x.told(q, what), m.told(q, what));
+            }
+            if (more(0)) {
+                due("written(" + q + ")", x.written(q), m.written(q));
             }
         }
         for (int what = 0; what < 5 && more(0); what++) {

@@ -5,6 +5,7 @@ public final class TellingTest {
     public static void main(String[] args) {
         wrongOnes();
         toldOfADriver();
+        sawBehindReset();
         toldOfAGuest();
         counts();
         countsStay();
@@ -52,7 +53,40 @@ public final class TellingTest {
         due(x, "nothing", 0, 1, 0, 0, 0, 8, 8, 0);
         x.reset(true);
         for (int q = 0; q < 3; q++) {
-            due(x, "reset", q, 0, 0, 0, 0, 0, 0);
+            due(x, "reset", q, 0, 0, 0, 0, 0, 0, 0);
+        }
+    }
+
+    private static void sawBehindReset() {
+        RingDevices x = new RingDevices();
+        for (int t = 0; t < 2; t++) {
+            x.start(t == 1);
+            x.read(0);
+            x.step(0);
+            x.post();
+            x.arrive(1, 0);
+            x.send(1, 0);
+            x.step(2);
+            for (int q = 0; q < 3; q++) {
+                x.collect(q);
+                CHECKS.due("SAW one of QUEUE " + q, x.told(q, 6), 1);
+            }
+            x.poke(154, 9);
+            CHECKS.due("a head that is not lent out", x.collect(0), RingDevices.STRANGE);
+            CHECKS.due("SAW that, too", x.told(0, 6), 2);
+            x.reset(t == 0);
+            for (int q = 0; q < 3; q++) {
+                CHECKS.due("reset: SAW of QUEUE " + q, x.told(q, 6), 0);
+                CHECKS.due("reset: FREE of QUEUE " + q, x.told(q, 5), 0);
+            }
+            x.queue(0, 8, 0, 128, 152);
+            x.run();
+            CHECKS.due("a guest's QUEUE", x.told(0, 6), 0);
+            CHECKS.due("a guest's QUEUE", x.told(0, 5), 0);
+        }
+        x.start(false);
+        for (int q = 0; q < 3; q++) {
+            due(x, "start behind reset", q, 1, 0, 0, 0, 8, 8, 0);
         }
     }
 
