@@ -8,11 +8,27 @@ final class Checks {
         this.test = test;
     }
 
+    int made() {
+        return made;
+    }
+
+    int wrong() {
+        return wrong;
+    }
+
     void due(String call, long got, long want) {
         made++;
         if (got != want) {
             wrong++;
             System.out.println(test + ": " + call + " answered " + got + ", due is " + want);
+        }
+    }
+
+    void same(String what, String got, String want) {
+        made++;
+        if (!got.equals(want)) {
+            wrong++;
+            System.out.println(test + ": " + what + " is " + got + ", due is " + want);
         }
     }
 
